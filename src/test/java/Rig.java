@@ -1,0 +1,205 @@
+import java.util.function.Supplier;
+
+/** A volume under test: calls with names typed first, answers as texts, and what was due of them. */
+final class Rig {
+    static final String ARGUMENT = "IllegalArgumentException";
+    static final String STATE = "IllegalStateException";
+    static final String UNSUPPORTED = "UnsupportedOperationException";
+    static final String NO_SUCH = "NoSuchElementException";
+    static final String BOUNDS = "IndexOutOfBoundsException";
+    static final String DONE = "done";
+
+    private static int wrong;
+
+    final FileVolume volume = new FileVolume();
+
+    static void due(String what, Object got, Object want) {
+        String answer = String.valueOf(got);
+        if (!answer.equals(String.valueOf(want))) {
+            wrong++;
+            System.out.println(what + ": answered " + answer + ", due is " + want);
+        }
+    }
+
+    static void end() {
+        if (wrong != 0) {
+            System.out.println(wrong + " answers are not as due");
+            System.exit(1);
+        }
+    }
+
+    private static String answer(Supplier<Object> call) {
+        try {
+            return String.valueOf(call.get());
+        } catch (RuntimeException e) {
+            return e.getClass().getSimpleName();
+        }
+    }
+
+    private static String done(Runnable call) {
+        return answer(() -> {
+            call.run();
+            return DONE;
+        });
+    }
+
+    Rig type(String text) {
+        for (char c : text.toCharArray()) {
+            volume.type(c);
+        }
+        return this;
+    }
+
+    String create(String name, int kind) {
+        type(name);
+        return done(() -> volume.create(kind));
+    }
+
+    String file(String name) {
+        return create(name, 1);
+    }
+
+    String directory(String name) {
+        return create(name, 2);
+    }
+
+    String delete(String name) {
+        type(name);
+        return done(volume::delete);
+    }
+
+    String enter(String name) {
+        type(name);
+        return done(volume::enter);
+    }
+
+    String open(String name) {
+        type(name);
+        return answer(volume::open);
+    }
+
+    String read(int handle, int n) {
+        return answer(() -> volume.read(handle, n));
+    }
+
+    String write(int handle, long bytes, int n) {
+        return answer(() -> volume.write(handle, bytes, n));
+    }
+
+    /** Writes so many bytes, eight by eight, the byte at position p being p & 127. */
+    void append(int handle, int count) {
+        int position = volume.look(10 + handle);
+        for (int done = 0; done < count; ) {
+            int n = Math.min(8, count - done);
+            long bytes = 0;
+            for (int i = 0; i < n; i++) {
+                bytes = bytes << 8 | (position + done + i & 127);
+            }
+            due("append", write(handle, bytes, n), n);
+            done += n;
+        }
+    }
+
+    String list(int k, int what) {
+        return answer(() -> volume.list(k, what));
+    }
+
+    String shortName(int k) {
+        return text(k, 10, 6);
+    }
+
+    String longName(int k) {
+        return text(k, 20, 26);
+    }
+
+    private String text(int k, int from, int most) {
+        StringBuilder text = new StringBuilder();
+        for (int i = 0; i < most; i++) {
+            int c = volume.list(k, from + i);
+            if (c >= 0) {
+                text.append((char) c);
+            }
+        }
+        return text.toString();
+    }
+
+    String repair() {
+        return answer(volume::repair);
+    }
+
+    int look(int what) {
+        return volume.look(what);
+    }
+
+    int writes() {
+        return volume.look(1);
+    }
+
+    int free() {
+        return volume.look(2);
+    }
+
+    int octet(int sector, int k) {
+        return volume.octet(sector, k);
+    }
+
+    int cell(int cluster) {
+        return pair(cluster / 16, cluster % 16 * 2);
+    }
+
+    int secondCell(int cluster) {
+        return pair(4 + cluster / 16, cluster % 16 * 2);
+    }
+
+    private int pair(int sector, int k) {
+        return octet(sector, k) + 256 * octet(sector, k + 1);
+    }
+
+    void pokeCell(int cluster, int value) {
+        pokePair(cluster / 16, cluster % 16 * 2, value);
+    }
+
+    void pokeBothCells(int cluster, int value) {
+        pokeCell(cluster, value);
+        pokePair(4 + cluster / 16, cluster % 16 * 2, value);
+    }
+
+    void pokePair(int sector, int k, int value) {
+        due("poke", volume.poke(sector, k, value & 255), true);
+        due("poke", volume.poke(sector, k + 1, value >> 8), true);
+    }
+
+    /** Sixteen bytes of an entry as numbers with blanks between. */
+    String entry(int sector, int half) {
+        StringBuilder text = new StringBuilder();
+        for (int i = 0; i < 16; i++) {
+            text.append(i == 0 ? "" : " ").append(octet(sector, half * 16 + i));
+        }
+        return text.toString();
+    }
+
+    String image() {
+        StringBuilder text = new StringBuilder();
+        for (int sector = 0; sector < 70; sector++) {
+            for (int k = 0; k < 32; k++) {
+                text.append((char) octet(sector, k));
+            }
+        }
+        return text.toString();
+    }
+
+    /** Makes the files X and Y, open as handles 0 and 1, and leaves so many clusters free. */
+    void fillBut(int clusters) {
+        file("X");
+        file("Y");
+        open("X");
+        open("Y");
+        for (int i = 0; i < 128 && free() > clusters; i++) {
+            write(0, i, 8);
+        }
+        for (int i = 0; i < 128 && free() > clusters; i++) {
+            write(1, i, 8);
+        }
+        due("fill", free(), clusters);
+    }
+}
