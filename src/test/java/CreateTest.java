@@ -72,6 +72,9 @@ public final class CreateTest {
         Rig.due("part 1", rig.entry(8, 1), "1 102 111 117 114 116 15 213 101 101 110 46 99 104 97 114");
         Rig.due("file", rig.entry(9, 0), "70 79 85 82 126 49 1 0 0 0 0 0 0 0 0 0");
         Rig.due("behind it", rig.entry(9, 1), "0 0 0 0 0 0 0 0 0 0 0 0 0 0 0 0");
+        rig.file("a?");
+        Rig.due("0 behind a shorter name", rig.longName(1), "a?");
+        Rig.due("in its part", rig.entry(9, 1).substring(0, 24), "65 97 63 0 0 0 15 106 0 ");
         Rig one = new Rig();
         one.file("a");
         // A~1 filled up with 32: 65 0 49 130 37 106.
@@ -99,8 +102,10 @@ public final class CreateTest {
         Rig rig = new Rig();
         rig.file("README");
         rig.directory("Some.Thing");
+        rig.file("AZaz@[`{");
+        Rig.due("not letters", rig.file("AZAZ`{@["), Rig.DONE);
         int writes = rig.writes();
-        for (String name : new String[] {"README", "readme", "some.thing", "SOME.THING", "SOME~1", "some~1"}) {
+        for (String name : new String[] {"README", "readme", "some.thing", "SOME.THING", "azAZ@[`{", "AZaz@[`{", "SOME~1", "some~1"}) {
             Rig.due(name, rig.file(name), Rig.UNSUPPORTED);
             Rig.due(name, rig.directory(name), Rig.UNSUPPORTED);
             Rig.due("line", rig.look(4), 0);

@@ -47,6 +47,10 @@ public final class FaceTest {
         for (Method method : FileVolume.class.getMethods()) {
             names.add(method.getName());
         }
+        for (Method method : FileVolume.class.getDeclaredMethods()) {
+            boolean isPrivate = Modifier.isPrivate(method.getModifiers());
+            Rig.due(method.getName(), isPrivate && names.contains(method.getName()), false);
+        }
         for (Class<?> inside : FileVolume.class.getDeclaredClasses()) {
             for (Method method : inside.getDeclaredMethods()) {
                 Rig.due(inside.getSimpleName() + "." + method.getName(), names.contains(method.getName()), false);

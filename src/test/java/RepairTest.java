@@ -116,6 +116,13 @@ public final class RepairTest {
         alone.volume.power();
         dueFixes("the entry is missing", alone, 1, 1);
         Rig.due("freed", alone.octet(8, 0), 229);
+        Rig before = new Rig();
+        before.volume.cut(6);
+        before.file("fourteen_chars");
+        before.volume.power();
+        before.file("b");
+        dueFixes("a part in front of another name", before, 1, 1);
+        Rig.due("which stays", before.octet(8, 0) + " " + before.longName(0), "229 b");
         Rig freed = new Rig();
         freed.file("fourteen_chars");
         freed.volume.poke(9, 0, 229);

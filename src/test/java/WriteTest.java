@@ -46,6 +46,8 @@ public final class WriteTest {
         writesOf(rig, 8);
         writesOf(rig, 6);
         Rig.due("over the end", writesOf(rig, 8), 3 + 2 + 2 + 1);
+        rig.volume.seek(0, 30);
+        Rig.due("up to the end: the size stays", writesOf(rig, 8), 2);
         rig.volume.seek(0, 28);
         Rig.due("in two sectors", writesOf(rig, 8), 2);
         Rig.due("linked", rig.cell(3) + " " + rig.secondCell(3), "4 4");
