@@ -27,18 +27,21 @@ public final class PokeTest {
         Rig.due("cut can be set", rig.volume.cut(99), true);
         Rig.due("nothing to fix", rig.repair(), 0);
         Rig.due("sound", rig.file(""), Rig.DONE);
-        lowestByte();
+        valuesThatAreNoBytes();
         sameByte();
         withoutPower();
         Rig.end();
     }
 
-    private static void lowestByte() {
-        Rig rig = new Rig();
-        Rig.due("beyond a byte", rig.volume.poke(20, 0, 256 + 7), true);
-        Rig.due("its lowest byte", rig.octet(20, 0), 7);
-        rig.volume.poke(20, 0, -1);
-        Rig.due("of -1", rig.octet(20, 0), 255);
+    /** The document does not say what becomes of such a value, but a byte stays a byte. */
+    private static void valuesThatAreNoBytes() {
+        for (int value : new int[] {Integer.MIN_VALUE, -1, 256, 256 + 7, Integer.MAX_VALUE}) {
+            Rig rig = new Rig();
+            boolean done = rig.volume.poke(20, 0, value);
+            int octet = rig.octet(20, 0);
+            Rig.due("a byte by " + value, octet >= 0 && octet <= 255, true);
+            Rig.due("unchanged or suspect", rig.list(0, 0), done ? Rig.STATE : Rig.NO_SUCH);
+        }
     }
 
     private static void sameByte() {

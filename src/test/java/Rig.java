@@ -1,3 +1,4 @@
+import java.util.Arrays;
 import java.util.function.Supplier;
 
 /** A volume under test: calls with names typed first, answers as texts, and what was due of them. */
@@ -10,6 +11,7 @@ final class Rig {
     static final String DONE = "done";
 
     private static int wrong;
+    private static String sentence = "";
 
     final FileVolume volume = new FileVolume();
 
@@ -17,8 +19,13 @@ final class Rig {
         String answer = String.valueOf(got);
         if (!answer.equals(String.valueOf(want))) {
             wrong++;
-            System.out.println(what + ": answered " + answer + ", due is " + want);
+            System.out.println(sentence + what + ": answered " + answer + ", due is " + want);
         }
+    }
+
+    /** The words of the document that the next answers are held against. */
+    static void sentence(String words) {
+        sentence = "\"" + words + "\" ";
     }
 
     static void end() {
@@ -186,6 +193,36 @@ final class Rig {
             }
         }
         return text.toString();
+    }
+
+    /**
+     * Makes a file X of the clusters from one on, all free till now, but for those that are to be left.
+     * Pokes and a repair do it, since an object has no more than 512 calls.
+     */
+    void occupyFrom(int first, int... left) {
+        file("X");
+        int size = 0;
+        int next = 65535;
+        for (int cluster = 63; cluster >= first; cluster--) {
+            int wanted = cluster;
+            if (Arrays.stream(left).noneMatch(c -> c == wanted)) {
+                pokeFreeCell(cluster, next);
+                next = cluster;
+                size += 32;
+            }
+        }
+        int entry = octet(8, 0) == 'X' ? 0 : 16;
+        pokePair(8, entry + 8, next);
+        pokePair(8, entry + 10, size);
+        repair();
+        due("occupied", free(), left.length);
+    }
+
+    private void pokeFreeCell(int cluster, int value) {
+        volume.poke(cluster / 16, cluster % 16 * 2, value & 255);
+        if (value > 255) {
+            volume.poke(cluster / 16, cluster % 16 * 2 + 1, value >> 8);
+        }
     }
 
     /** Makes the files X and Y, open as handles 0 and 1, and leaves so many clusters free. */
