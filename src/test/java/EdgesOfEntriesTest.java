@@ -18,6 +18,7 @@ public final class EdgesOfEntriesTest {
         wrongOrder();
         wrongSums();
         notDirectlyInFront();
+        otherKindsTellNothing();
         oneOfTwoIsMissing();
         onePartTooMany();
         upToTheFirstZero();
@@ -242,6 +243,15 @@ public final class EdgesOfEntriesTest {
         Rig.due("the other name stays", rig.longName(0), "five");
     }
 
+    private static void otherKindsTellNothing() {
+        Rig.sentence("Byte 6: its KIND, .. 15 a PART.");
+        for (int kind : new int[] {0, 3, 14, 16, 255}) {
+            dueUntold("four", 6, kind, 1);
+            dueUntold("fourteen_chars", 6, kind, 2);
+            dueUntold("fourteen_chars", 22, kind, 2);
+        }
+    }
+
     private static void oneOfTwoIsMissing() {
         Rig.sentence("told by one or two parts .. else it has none.");
         for (int mark : new int[] {0, 229}) {
@@ -320,6 +330,10 @@ public final class EdgesOfEntriesTest {
             Rig.due("up to there", rig.open("AB"), 0);
             Rig.due("listed", rig.list(0, 10) + " " + rig.list(0, 11) + " " + rig.list(0, 12), "65 66 -1");
         }
+        Rig none = new Rig();
+        none.file("A");
+        none.volume.poke(8, 0, 32);
+        Rig.due("nothing in front of it", none.repair() + " " + none.list(0, 0) + " " + none.list(0, 10), "0 1 -1");
         for (int near : new int[] {1, 31, 33}) {
             Rig rig = new Rig();
             rig.file("ABCDEF");

@@ -194,6 +194,8 @@ public final class EdgesOfLookingTest {
         rig.pokeCell(2, 0);
         rig.pokeCell(0, 0);
         Rig.due("cell 2 is a cluster's, cell 0 is not", rig.free(), 61);
+        rig.pokePair(4, 0, 0);
+        Rig.due("nor is there a cell 64", rig.free(), 61);
         Rig full = new Rig();
         full.occupyFrom(3);
         Rig.due("none", full.free(), 0);

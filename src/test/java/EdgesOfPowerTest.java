@@ -298,10 +298,13 @@ public final class EdgesOfPowerTest {
         for (int handle = 0; handle < 4; handle++) {
             rig.open("F");
         }
+        rig.type("AB");
         Rig.due("poke", rig.volume.poke(60, 0, 0), true);
+        Rig.due("line", rig.look(4), 2);
         Rig.due("handles", rig.look(10) + rig.look(11) + rig.look(12) + rig.look(13), -4);
         Rig.due("HERE", rig.look(3), 2);
         rig.repair();
+        rig.file("");
         Rig.due("its depth, too", rig.enter("D") + rig.directory("E") + rig.enter("E") + rig.directory("E") + rig.enter("E")
                 + rig.directory("E") + rig.enter("E") + rig.directory("E"), Rig.DONE.repeat(7) + Rig.UNSUPPORTED);
     }

@@ -1,12 +1,14 @@
 import java.util.Random;
 
-/** Long runs with cuts and pokes: only promised exceptions, and a repair leaves nothing wrong. */
+/** Runs with cuts and pokes: only promised exceptions, and a repair leaves nothing lost, shared or dangling. */
 public final class FuzzTest {
     private static final String[] NAMES = {"A", "B", "README", "a", "notes.txt", "fourteen_chars", "long~2",
-        "longname", "a_rather_long_directory", "D", "E", "x!", ".p", ""};
+        "longname", "D", "E", "x!", ".p", ""};
+    /** The calls that a run may make before its disk is looked through, which takes the rest of the 512. */
+    private static final int CALLS_BEFORE = 170;
 
     public static void main(String[] args) {
-        for (int seed = 0; seed < 600; seed++) {
+        for (int seed = 0; seed < 4000; seed++) {
             run(seed);
         }
         Rig.end();
@@ -14,111 +16,141 @@ public final class FuzzTest {
 
     private static void run(int seed) {
         Random random = new Random(seed);
+        Rig.sentence("seed " + seed);
         Rig rig = new Rig();
-        for (int step = 0; step < 60; step++) {
-            dueAllowed(seed, step(rig, random));
-            if (random.nextInt(6) == 0) {
-                disturb(rig, random);
+        for (int calls = 0; calls < CALLS_BEFORE; ) {
+            calls += step(rig, random);
+            if (random.nextInt(8) == 0) {
+                calls += disturb(rig, random);
             }
             if (random.nextInt(8) == 0) {
-                dueRepaired(seed, rig);
+                rig.volume.power();
+                rig.repair();
+                calls += 2;
             }
         }
+        rig.volume.power();
+        rig.volume.cut(Integer.MAX_VALUE);
+        dueAllowed(rig.repair());
+        int writes = rig.writes();
+        Rig.due("again", rig.repair() + " " + (rig.writes() - writes), "0 0");
+        new Image(rig, seed % 4).dueSound();
     }
 
-    private static String step(Rig rig, Random random) {
+    /** Makes a step and answers how many calls it made. */
+    private static int step(Rig rig, Random random) {
         String name = NAMES[random.nextInt(NAMES.length)];
         int handle = random.nextInt(5) - 1;
         switch (random.nextInt(9)) {
             case 0:
             case 1:
-                return rig.create(name, 1 + random.nextInt(3));
             case 2:
-                return rig.delete(name);
+                dueAllowed(rig.create(name, 1 + random.nextInt(3)));
+                return name.length() + 1;
             case 3:
-                return rig.enter(name);
+                dueAllowed(rig.delete(name));
+                return name.length() + 1;
             case 4:
-                return rig.open(name);
+                dueAllowed(rig.enter(name));
+                return name.length() + 1;
             case 5:
-                return rig.read(handle, random.nextInt(9));
+                dueAllowed(rig.open(name));
+                return name.length() + 1;
             case 6:
-                return rig.list(random.nextInt(6) - 1, random.nextInt(48) - 1);
+                dueAllowed(rig.read(handle, random.nextInt(9)));
+                return 1;
+            case 7:
+                dueAllowed(rig.list(random.nextInt(6) - 1, random.nextInt(48) - 1));
+                return 1;
             default:
-                for (int i = 0; i < 9; i++) {
-                    rig.write(handle, random.nextLong(), 8);
+                for (int i = 0; i < 6; i++) {
+                    dueAllowed(rig.write(handle, random.nextLong(), random.nextInt(3) > 0 ? 8 : random.nextInt(10)));
                 }
-                return rig.write(handle, random.nextLong(), random.nextInt(10));
+                return 6;
         }
     }
 
-    private static void disturb(Rig rig, Random random) {
+    private static int disturb(Rig rig, Random random) {
         if (random.nextInt(3) > 0) {
             rig.volume.cut(random.nextInt(12));
-            return;
+            return 1;
         }
-        for (int i = random.nextInt(9); i >= 0; i--) {
+        int pokes = 1 + random.nextInt(9);
+        for (int i = 0; i < pokes; i++) {
             int sector = random.nextBoolean() ? random.nextInt(8) : 8 + random.nextInt(9);
             int value = random.nextBoolean() ? random.nextInt(70) : random.nextInt(256);
             rig.volume.poke(sector, random.nextInt(32), value);
         }
+        return pokes;
     }
 
-    private static void dueAllowed(int seed, String answer) {
+    private static void dueAllowed(String answer) {
         boolean allowed = !answer.contains("Exception") || answer.equals(Rig.ARGUMENT) || answer.equals(Rig.STATE)
                 || answer.equals(Rig.UNSUPPORTED) || answer.equals(Rig.NO_SUCH) || answer.equals(Rig.BOUNDS);
-        Rig.due("seed " + seed + " " + answer, allowed, true);
+        Rig.due(answer, allowed, true);
     }
 
-    private static void dueRepaired(int seed, Rig rig) {
-        rig.volume.power();
-        rig.volume.cut(Integer.MAX_VALUE);
-        int fixes = Integer.parseInt(rig.repair());
-        String image = rig.image();
-        Rig.due("seed " + seed + " again", rig.repair(), 0);
-        Rig.due("seed " + seed + " image", rig.image().equals(image), true);
-        Rig.due("seed " + seed + " fixes", fixes >= 0, true);
-        boolean[] used = new boolean[64];
-        use(seed, rig, 2, used);
-        useEntries(seed, rig, 2, used, 1);
-        for (int cell = 0; cell < 64; cell++) {
-            Rig.due("seed " + seed + " tables", rig.secondCell(cell), rig.cell(cell));
-            if (cell > 1) {
-                Rig.due("seed " + seed + " lost " + cell, rig.cell(cell) != 0, used[cell]);
+    /** The tables of a repaired disk, read once, and the clusters that its directories and files use. */
+    private static final class Image {
+        private final Rig rig;
+        private final int[] cells = new int[64];
+        private final boolean[] used = new boolean[64];
+
+        /** The second table is read in a quarter of its cells, to stay within the 512 calls. */
+        Image(Rig rig, int quarter) {
+            this.rig = rig;
+            for (int cell = 0; cell < 64; cell++) {
+                cells[cell] = rig.cell(cell);
+                if (cell % 4 == quarter) {
+                    Rig.due("both tables at " + cell, rig.secondCell(cell), cells[cell]);
+                }
             }
         }
-    }
 
-    private static int use(int seed, Rig rig, int first, boolean[] used) {
-        int length = 0;
-        for (int cluster = first; cluster != 65535; cluster = rig.cell(cluster)) {
-            boolean good = cluster > 1 && cluster < 64 && !used[cluster] && rig.cell(cluster) != 0;
-            Rig.due("seed " + seed + " chain at " + cluster, good, true);
-            if (!good) {
-                return length;
+        void dueSound() {
+            Rig.due("cells 0 and 1", cells[0] + " " + cells[1], "65535 65535");
+            use(2);
+            useEntries(2, 1);
+            for (int cell = 2; cell < 64; cell++) {
+                Rig.due("lost " + cell, cells[cell] != 0, used[cell]);
             }
-            used[cluster] = true;
-            length++;
         }
-        return length;
-    }
 
-    private static void useEntries(int seed, Rig rig, int directory, boolean[] used, int depth) {
-        for (int cluster = directory; cluster != 65535; cluster = rig.cell(cluster)) {
-            for (int at = 0; at < 32; at += 16) {
-                int mark = rig.octet(cluster + 6, at);
-                int kind = rig.octet(cluster + 6, at + 6);
-                if (mark == 0 || mark == 229 || kind == 15) {
-                    continue;
+        private int use(int first) {
+            int length = 0;
+            for (int cluster = first; cluster != 65535; cluster = cells[cluster]) {
+                boolean good = cluster > 1 && cluster < 64 && !used[cluster] && cells[cluster] != 0;
+                Rig.due("chain at " + cluster, good, true);
+                if (!good) {
+                    return length;
                 }
-                int first = rig.octet(cluster + 6, at + 8) + 256 * rig.octet(cluster + 6, at + 9);
-                int size = rig.octet(cluster + 6, at + 10) + 256 * rig.octet(cluster + 6, at + 11);
-                int length = first == 0 ? 0 : use(seed, rig, first, used);
-                Rig.due("seed " + seed + " kind", kind == 1 || kind == 2 && depth < 5 && first != 0, true);
-                if (kind == 1) {
-                    Rig.due("seed " + seed + " size", (size + 31) / 32, length);
-                } else if (depth < 5) {
-                    useEntries(seed, rig, first, used, depth + 1);
-                }
+                used[cluster] = true;
+                length++;
+            }
+            return length;
+        }
+
+        private void useEntries(int directory, int depth) {
+            for (int cluster = directory; cluster > 1 && cluster < 64; cluster = cells[cluster]) {
+                useEntry(cluster + 6, 0, depth);
+                useEntry(cluster + 6, 16, depth);
+            }
+        }
+
+        private void useEntry(int sector, int at, int depth) {
+            int mark = rig.octet(sector, at);
+            int kind = rig.octet(sector, at + 6);
+            if (mark == 0 || mark == 229 || kind == 15) {
+                return;
+            }
+            int first = rig.octet(sector, at + 8) + 256 * rig.octet(sector, at + 9);
+            int length = first == 0 ? 0 : use(first);
+            Rig.due("kind", kind == 1 || kind == 2 && depth < 5 && first != 0, true);
+            if (kind == 1) {
+                int size = rig.octet(sector, at + 10) + 256 * rig.octet(sector, at + 11);
+                Rig.due("size", (size + 31) / 32, length);
+            } else if (depth < 5) {
+                useEntries(first, depth + 1);
             }
         }
     }

@@ -15,8 +15,9 @@ public final class NewObjectTest {
             Rig.due("second cell " + cell, rig.secondCell(cell), cell < 3 ? 65535 : 0);
         }
         for (int sector = 8; sector < 70; sector++) {
+            Rig another = new Rig();
             for (int k = 0; k < 32; k++) {
-                Rig.due("sector " + sector, rig.octet(sector, k), 0);
+                Rig.due("sector " + sector, another.octet(sector, k), 0);
             }
         }
         Rig.due("an empty ROOT", rig.list(0, 0), Rig.NO_SUCH);

@@ -185,16 +185,6 @@ final class Rig {
         return text.toString();
     }
 
-    String image() {
-        StringBuilder text = new StringBuilder();
-        for (int sector = 0; sector < 70; sector++) {
-            for (int k = 0; k < 32; k++) {
-                text.append((char) octet(sector, k));
-            }
-        }
-        return text.toString();
-    }
-
     /**
      * Makes a file X of the clusters from one on, all free till now, but for those that are to be left.
      * Pokes and a repair do it, since an object has no more than 512 calls.
@@ -225,18 +215,14 @@ final class Rig {
         }
     }
 
-    /** Makes the files X and Y, open as handles 0 and 1, and leaves so many clusters free. */
+    /** Makes the files X and Y, open as handles 0 and 1, and leaves so many clusters free, 29 at most. */
     void fillBut(int clusters) {
         file("X");
         file("Y");
         open("X");
         open("Y");
-        for (int i = 0; i < 128 && free() > clusters; i++) {
-            write(0, i, 8);
-        }
-        for (int i = 0; i < 128 && free() > clusters; i++) {
-            write(1, i, 8);
-        }
+        append(0, 1024);
+        append(1, 32 * (29 - clusters));
         due("fill", free(), clusters);
     }
 }
