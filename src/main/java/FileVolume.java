@@ -72,7 +72,7 @@ public final class FileVolume {
         folder.load(session.here);
         boolean tooDeep = kind == DIRECTORY && session.depth >= DEEPEST;
         if (tooDeep || folder.find(name, 0) != NONE || !name.chooseShort(folder)) {
-            throw new UnsupportedOperationException("too deep, or the name is there already");
+            throw new UnsupportedOperationException("too deep, called so already, or no short name");
         }
         int first = kind == DIRECTORY ? table.take() : NO_CLUSTER;
         if (kind == DIRECTORY && first == NO_CLUSTER) {

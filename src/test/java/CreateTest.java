@@ -122,8 +122,8 @@ public final class CreateTest {
         }
         int writes = rig.writes();
         Rig.due("tenth file", rig.file("long_x"), Rig.UNSUPPORTED);
-        Rig.due("tenth directory", rig.directory("long_x"), Rig.UNSUPPORTED);
         Rig.due("nothing written", rig.writes() - writes, 0);
+        Rig.due("tenth directory", rig.directory("long_x"), Rig.UNSUPPORTED);
         rig.delete("long_5");
         Rig.due("room again", rig.file("long_x"), Rig.DONE);
         Rig.due("the digit", rig.shortName(4), "LONG~5");

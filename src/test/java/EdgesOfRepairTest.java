@@ -36,25 +36,9 @@ public final class EdgesOfRepairTest {
         Rig.end();
     }
 
-    /** The repair must answer so many FIXES by so many writes, and leave nothing for another one. */
-    private static void dueFixes(String what, Rig rig, int fixes, int writes) {
-        int before = rig.writes();
-        Rig.due(what + ", fixes", rig.repair(), fixes);
-        Rig.due(what + ", writes", rig.writes() - before, writes);
-        Rig.due(what + ", again", rig.repair(), 0);
-    }
-
-    /** Files and directories below one another may be made where HERE is; the file is closed then. */
-    private static void file(Rig rig, String name, int size) {
-        rig.file(name);
-        int handle = Integer.parseInt(rig.open(name));
-        rig.append(handle, size);
-        rig.volume.close(handle);
-    }
-
     private static Rig withFile(int size) {
         Rig rig = new Rig();
-        file(rig, "F", size);
+        rig.fileOf("F", size);
         return rig;
     }
 
@@ -65,16 +49,16 @@ public final class EdgesOfRepairTest {
             Rig rig = new Rig();
             int was = rig.octet(place[0], place[1]);
             rig.volume.poke(place[0], place[1], 255 - was);
-            dueFixes("byte " + place[1] + " of " + place[0], rig, 1, 1);
+            rig.dueFixes("byte " + place[1] + " of " + place[0], 1, 1);
             Rig.due("as before", rig.octet(place[0], place[1]), was);
         }
         Rig both = new Rig();
         both.pokePair(4, 6, 0x0102);
-        dueFixes("both bytes of a cell", both, 1, 1);
+        both.dueFixes("both bytes of a cell", 1, 1);
         Rig two = new Rig();
         two.volume.poke(4, 7, 1);
         two.volume.poke(4, 8, 1);
-        dueFixes("a byte of two cells", two, 2, 2);
+        two.dueFixes("a byte of two cells", 2, 2);
     }
 
     private static void secondTableFromZeroOn() {
@@ -97,7 +81,7 @@ public final class EdgesOfRepairTest {
             for (int value : new int[] {0, 1, 2, 63, 64, 255, 65280, 65534}) {
                 Rig rig = new Rig();
                 rig.pokeBothCells(cell, value);
-                dueFixes("cell " + cell + " of " + value, rig, 1, 2);
+                rig.dueFixes("cell " + cell + " of " + value, 1, 2);
                 Rig.due("cells", rig.cell(cell) + " " + rig.secondCell(cell), "65535 65535");
             }
         }
@@ -108,23 +92,23 @@ public final class EdgesOfRepairTest {
         for (int value : new int[] {1, 64, 65, 255, 256, 258, 65279, 65534}) {
             Rig rig = withFile(32);
             rig.pokeBothCells(3, value);
-            dueFixes("cell 3 of " + value, rig, 1, 2);
+            rig.dueFixes("cell 3 of " + value, 1, 2);
             Rig.due("cells", rig.cell(3) + " " + rig.secondCell(3), "65535 65535");
             Rig root = new Rig();
             root.pokeBothCells(2, value);
-            dueFixes("cell 2 of " + value, root, 1, 2);
+            root.dueFixes("cell 2 of " + value, 1, 2);
             Rig last = new Rig();
             last.pokeBothCells(63, value);
-            dueFixes("cell 63 of " + value + ", then lost", last, 2, 4);
+            last.dueFixes("cell 63 of " + value + ", then lost", 2, 4);
         }
         Rig rig = withFile(32);
         rig.pokeBothCells(3, 63);
         rig.pokeBothCells(63, 65535);
         rig.pokePair(8, 10, 64);
-        dueFixes("63 and 65535 are good ones", rig, 0, 0);
+        rig.dueFixes("63 and 65535 are good ones", 0, 0);
         Rig two = withFile(32);
         two.pokeBothCells(3, 2);
-        dueFixes("2 is looked at later", two, 1, 2);
+        two.dueFixes("2 is looked at later", 1, 2);
     }
 
     private static void secondTableComesBeforeCells() {
@@ -135,40 +119,40 @@ public final class EdgesOfRepairTest {
         Rig.due("cut", rig.repair(), Rig.STATE);
         Rig.due("the second is made like the first", rig.octet(0, 0) + " " + rig.octet(4, 0), "7 7");
         rig.volume.power();
-        dueFixes("then the cell", rig, 1, 2);
+        rig.dueFixes("then the cell", 1, 2);
         Rig one = new Rig();
         one.pokeCell(9, 1);
-        dueFixes("a bad cell in one table: made like, SET, lost", one, 3, 1 + 2 + 2);
+        one.dueFixes("a bad cell in one table: made like, SET, lost", 3, 1 + 2 + 2);
     }
 
     private static void entriesInOrder() {
         Rig.sentence("directories are gone through, each entry in order");
         Rig rig = new Rig();
-        file(rig, "A", 32);
-        file(rig, "B", 32);
-        file(rig, "C", 32);
+        rig.fileOf("A", 32);
+        rig.fileOf("B", 32);
+        rig.fileOf("C", 32);
         rig.pokePair(8, 16 + 8, 3);
         rig.pokePair(9 + 2, 8, 3);
         // A has its cluster, B and C lose theirs: two entries, two lost clusters.
-        dueFixes("the first one keeps it", rig, 4, 2 + 4);
+        rig.dueFixes("the first one keeps it", 4, 2 + 4);
         Rig.due("left", rig.shortName(0) + " " + rig.list(1, 0), "A " + Rig.NO_SUCH);
     }
 
     private static void belowBeforeWhatFollows() {
         Rig.sentence("and a directory below when its entry comes, before what follows.");
         Rig rig = new Rig();
-        file(rig, "A", 32);
+        rig.fileOf("A", 32);
         rig.directory("D");
-        file(rig, "B", 32);
+        rig.fileOf("B", 32);
         rig.enter("D");
-        file(rig, "E", 32);
-        file(rig, "F", 32);
+        rig.fileOf("E", 32);
+        rig.fileOf("F", 32);
         int sector = rig.look(3) + 6;
         rig.enter("");
         rig.pokePair(sector, 8, firstClusterOf(rig, "A"));
         rig.pokePair(sector, 16 + 8, firstClusterOf(rig, "B"));
         // E shares with A, which came before; F shares with B, which comes later.
-        dueFixes("E and B go", rig, 4, 2 + 4);
+        rig.dueFixes("E and B go", 4, 2 + 4);
         Rig.due("A and D stay", rig.shortName(0) + rig.shortName(1) + rig.list(2, 0), "AD" + Rig.NO_SUCH);
         rig.enter("D");
         Rig.due("F stays", rig.shortName(0) + rig.list(1, 0), "F" + Rig.NO_SUCH);
@@ -190,11 +174,11 @@ public final class EdgesOfRepairTest {
         Rig.sentence("at one that is 0 (free), .. the cell before is SET to 65535 (a FIX); the chain ends there.");
         Rig rig = withFile(32);
         rig.pokeBothCells(3, 50);
-        dueFixes("behind the end", rig, 1, 2);
+        rig.dueFixes("behind the end", 1, 2);
         Rig.due("the free one stays", rig.cell(3) + " " + rig.cell(50) + " " + rig.list(0, 1), "65535 0 32");
         Rig hole = withFile(96);
         hole.pokeBothCells(4, 0);
-        dueFixes("in the middle: the cell, the size, a lost one", hole, 3, 2 + 1 + 2);
+        hole.dueFixes("in the middle: the cell, the size, a lost one", 3, 2 + 1 + 2);
         Rig.due("left", hole.list(0, 1) + " " + hole.cell(3) + " " + hole.free(), "32 65535 60");
     }
 
@@ -203,17 +187,17 @@ public final class EdgesOfRepairTest {
         for (int back = 3; back <= 5; back++) {
             Rig rig = withFile(96);
             rig.pokeBothCells(5, back);
-            dueFixes("a circle to " + back, rig, 1, 2);
+            rig.dueFixes("a circle to " + back, 1, 2);
             Rig.due("left", rig.list(0, 1) + " " + rig.cell(5), "96 65535");
         }
         Rig root = withFile(32);
         root.pokeBothCells(3, 2);
-        dueFixes("the ROOT", root, 1, 2);
+        root.dueFixes("the ROOT", 1, 2);
         Rig shared = new Rig();
-        file(shared, "A", 64);
-        file(shared, "B", 64);
+        shared.fileOf("A", 64);
+        shared.fileOf("B", 64);
         shared.pokeBothCells(6, 4);
-        dueFixes("a file before", shared, 1, 2);
+        shared.dueFixes("a file before", 1, 2);
         Rig.due("both are there", shared.list(0, 1) + " " + shared.list(1, 1) + " " + shared.cell(6), "64 64 65535");
     }
 
@@ -226,11 +210,11 @@ public final class EdgesOfRepairTest {
             rig.file("F" + i);
         }
         rig.pokeBothCells(4, 3);
-        dueFixes("a circle in a directory", rig, 1, 2);
+        rig.dueFixes("a circle in a directory", 1, 2);
         rig.enter("D");
         Rig.due("its entries stay", rig.shortName(3) + rig.list(4, 0), "F3" + Rig.NO_SUCH);
         rig.pokeBothCells(3, 60);
-        dueFixes("a free one behind its first", rig, 2, 4);
+        rig.dueFixes("a free one behind its first", 2, 4);
         rig.enter("D");
         Rig.due("the others are lost", rig.shortName(1) + rig.list(2, 0) + rig.free(), "F1" + Rig.NO_SUCH + 60);
     }
@@ -241,7 +225,7 @@ public final class EdgesOfRepairTest {
             Rig rig = new Rig();
             rig.file("A");
             rig.pokeBothCells(2, next);
-            dueFixes("the ROOT's cell " + next, rig, 1, 2);
+            rig.dueFixes("the ROOT's cell " + next, 1, 2);
             Rig.due("its entry stays", rig.shortName(0) + " " + rig.cell(2), "A 65535");
         }
         Rig rig = new Rig();
@@ -249,7 +233,7 @@ public final class EdgesOfRepairTest {
             rig.file("F" + i);
         }
         rig.pokePair(8, 8, 4);
-        dueFixes("the ROOT's last cluster is USED", rig, 1, 1);
+        rig.dueFixes("the ROOT's last cluster is USED", 1, 1);
         Rig.due("so the file is gone", rig.shortName(0) + rig.shortName(3), "F1F4");
     }
 
@@ -258,13 +242,13 @@ public final class EdgesOfRepairTest {
         Rig rig = new Rig();
         rig.file("A");
         rig.pokeBothCells(2, 0);
-        dueFixes("0", rig, 1, 2);
+        rig.dueFixes("0", 1, 2);
         Rig.due("cells", rig.cell(2) + " " + rig.secondCell(2) + " " + rig.shortName(0), "65535 65535 A");
         for (int i = 0; i < 4; i++) {
             rig.file("F" + i);
         }
         rig.pokeBothCells(2, 0);
-        dueFixes("0, the others are lost", rig, 3, 6);
+        rig.dueFixes("0, the others are lost", 3, 6);
         Rig.due("left", rig.shortName(0) + rig.shortName(1) + rig.list(2, 0), "AF0" + Rig.NO_SUCH);
     }
 
@@ -276,7 +260,7 @@ public final class EdgesOfRepairTest {
             rig.volume.poke(8, 6, 99);
             rig.pokePair(8, 8, 2);
             rig.pokePair(8, 10, 5000);
-            dueFixes("FREE by " + mark, rig, 0, 0);
+            rig.dueFixes("FREE by " + mark, 0, 0);
             Rig.due("its bytes stay", rig.octet(8, 0) + " " + rig.octet(8, 6), mark + " 99");
         }
     }
@@ -289,7 +273,7 @@ public final class EdgesOfRepairTest {
             Rig rig = new Rig();
             rig.file("a");
             rig.volume.poke(8, pokes[i][0], pokes[i][1]);
-            dueFixes("poke " + pokes[i][1] + " at " + pokes[i][0], rig, fixes[i], fixes[i]);
+            rig.dueFixes("poke " + pokes[i][1] + " at " + pokes[i][0], fixes[i], fixes[i]);
             Rig.due("only byte 0", rig.octet(8, 0) + " " + rig.octet(8, 1) + " " + rig.octet(8, 6), "229 97 15");
         }
         for (int kind = 1; kind <= 2; kind++) {
@@ -297,7 +281,7 @@ public final class EdgesOfRepairTest {
             rig.create("a", kind);
             rig.create("fourteen.chars", kind);
             rig.volume.poke(60, 0, 1);
-            dueFixes("parts that tell, kind " + kind, rig, 0, 0);
+            rig.dueFixes("parts that tell, kind " + kind, 0, 0);
         }
     }
 
@@ -311,7 +295,7 @@ public final class EdgesOfRepairTest {
         rig.volume.poke(9, 16, 65);
         rig.volume.poke(9, 16 + 6, 15);
         rig.volume.poke(9, 16 + 7, sum);
-        dueFixes("nothing is behind it", rig, 1, 1);
+        rig.dueFixes("nothing is behind it", 1, 1);
         Rig.due("freed", rig.octet(9, 16) + " " + rig.longName(1), "229 f");
     }
 
@@ -322,9 +306,9 @@ public final class EdgesOfRepairTest {
         rig.file("fourteen.chars");
         Rig.due("over the end of a cluster", rig.octet(8, 16) + " " + rig.octet(9, 0), "66 1");
         rig.volume.poke(60, 0, 1);
-        dueFixes("they tell", rig, 0, 0);
+        rig.dueFixes("they tell", 0, 0);
         rig.volume.poke(9, 16 + 8, 1);
-        dueFixes("they go together", rig, 1, 3);
+        rig.dueFixes("they go together", 1, 3);
         Rig.due("freed", rig.octet(8, 16) + " " + rig.octet(9, 0) + " " + rig.octet(9, 16), "229 229 229");
     }
 
@@ -334,7 +318,7 @@ public final class EdgesOfRepairTest {
             Rig rig = withFile(32);
             rig.file("G");
             rig.volume.poke(8, 6, kind);
-            dueFixes("kind " + kind + ", and its cluster", rig, 2, 1 + 2);
+            rig.dueFixes("kind " + kind + ", and its cluster", 2, 1 + 2);
             Rig.due("freed", rig.octet(8, 0) + " " + rig.shortName(0), "229 G");
         }
     }
@@ -346,14 +330,14 @@ public final class EdgesOfRepairTest {
                 Rig rig = new Rig();
                 rig.create("F", kind);
                 rig.pokePair(8, 8, first);
-                dueFixes("kind " + kind + " at " + first, rig, kind, kind == 1 ? 1 : 1 + 2);
+                rig.dueFixes("kind " + kind + " at " + first, kind, kind == 1 ? 1 : 1 + 2);
                 Rig.due("gone", rig.octet(8, 0) + " " + rig.free(), "229 61");
             }
         }
         Rig rig = withFile(32);
         rig.pokeBothCells(63, 65535);
         rig.pokePair(8, 8, 63);
-        dueFixes("63 is a cluster; the other one is lost", rig, 1, 2);
+        rig.dueFixes("63 is a cluster; the other one is lost", 1, 2);
         Rig.due("stays", rig.list(0, 2), 63);
     }
 
@@ -364,7 +348,7 @@ public final class EdgesOfRepairTest {
                 Rig rig = new Rig();
                 rig.create("F", kind);
                 rig.pokePair(8, 8, first);
-                dueFixes("kind " + kind + " at " + first, rig, kind, kind == 1 ? 1 : 1 + 2);
+                rig.dueFixes("kind " + kind + " at " + first, kind, kind == 1 ? 1 : 1 + 2);
                 Rig.due("gone", rig.octet(8, 0) + " " + rig.free(), "229 61");
             }
         }
@@ -373,7 +357,7 @@ public final class EdgesOfRepairTest {
         loop.enter("D");
         loop.directory("E");
         loop.pokePair(9, 8, 3);
-        dueFixes("a directory in itself, and a lost one", loop, 2, 1 + 2);
+        loop.dueFixes("a directory in itself, and a lost one", 2, 1 + 2);
         loop.enter("D");
         Rig.due("gone", loop.list(0, 0), Rig.NO_SUCH);
     }
@@ -383,9 +367,9 @@ public final class EdgesOfRepairTest {
         Rig rig = new Rig();
         rig.file("F");
         rig.volume.poke(60, 0, 1);
-        dueFixes("0 with kind 1", rig, 0, 0);
+        rig.dueFixes("0 with kind 1", 0, 0);
         rig.volume.poke(8, 6, 2);
-        dueFixes("0 with kind 2", rig, 1, 1);
+        rig.dueFixes("0 with kind 2", 1, 1);
         Rig.due("gone", rig.octet(8, 0), 229);
     }
 
@@ -398,17 +382,16 @@ public final class EdgesOfRepairTest {
             rig.volume.cut(k);
             Rig.due("repair", rig.repair(), k < 3 ? Rig.STATE : "1");
             Rig.due("the entry after " + k, rig.octet(9, 0), k > 2 ? 229 : 70);
-            int freed = (rig.octet(8, 0) == 229 ? 1 : 0) + (rig.octet(8, 16) == 229 ? 1 : 0);
-            Rig.due("parts after " + k, freed, Math.min(k, 2));
+            Rig.due("parts after " + k, rig.freedIn(8), Math.min(k, 2));
         }
         Rig one = new Rig();
         one.file("a");
         one.pokePair(8, 16 + 8, 2);
-        dueFixes("one part", one, 1, 2);
+        one.dueFixes("one part", 1, 2);
         Rig two = new Rig();
         two.file("fourteen.chars");
         two.pokePair(9, 8, 2);
-        dueFixes("two parts", two, 1, 3);
+        two.dueFixes("two parts", 1, 3);
     }
 
     private static void sizeNeedsFewer() {
@@ -418,7 +401,7 @@ public final class EdgesOfRepairTest {
             Rig rig = withFile(96);
             rig.pokePair(8, 10, one[0]);
             int lost = 3 - one[1];
-            dueFixes("size " + one[0], rig, lost == 0 ? 0 : 1 + lost, lost == 0 ? 0 : 2 + 2 * lost);
+            rig.dueFixes("size " + one[0], lost == 0 ? 0 : 1 + lost, lost == 0 ? 0 : 2 + 2 * lost);
             Rig.due("size, last cell, free", rig.list(0, 1) + " " + rig.cell(2 + one[1]) + " " + rig.free(),
                     one[0] + " 65535 " + (61 - one[1]));
         }
@@ -430,7 +413,7 @@ public final class EdgesOfRepairTest {
             Rig rig = withFile(size);
             int clusters = (size + 31) / 32;
             rig.pokePair(8, 10, 0);
-            dueFixes("of " + size, rig, 1 + clusters, 1 + 2 * clusters);
+            rig.dueFixes("of " + size, 1 + clusters, 1 + 2 * clusters);
             Rig.due("no cluster", rig.list(0, 2) + " " + rig.list(0, 1) + " " + rig.free(), "0 0 61");
         }
     }
@@ -444,7 +427,7 @@ public final class EdgesOfRepairTest {
             rig.pokePair(8, 16 + 8, first);
             rig.pokePair(8, 16 + 10, first == 4 ? 64 : 32);
             int lost = first == 4 ? 0 : 1;
-            dueFixes("G has it from " + first, rig, 1 + lost, 2 + 2 * lost);
+            rig.dueFixes("G has it from " + first, 1 + lost, 2 + 2 * lost);
             Rig.due("both stay", rig.list(0, 1) + " " + rig.list(1, 2), "32 " + first);
         }
         Rig none = withFile(64);
@@ -452,7 +435,7 @@ public final class EdgesOfRepairTest {
         none.pokePair(8, 10, 0);
         none.pokePair(8, 16 + 8, 3);
         none.pokePair(8, 16 + 10, 64);
-        dueFixes("G has the whole chain", none, 1, 1);
+        none.dueFixes("G has the whole chain", 1, 1);
         Rig.due("both stay", none.list(0, 2) + " " + none.list(1, 2) + " " + none.free(), "0 3 59");
     }
 
@@ -461,19 +444,19 @@ public final class EdgesOfRepairTest {
         for (int size : new int[] {65, 96, 97, 320, 1024, 65535}) {
             Rig rig = withFile(40);
             rig.pokePair(8, 10, size);
-            dueFixes("size " + size, rig, 1, 1);
+            rig.dueFixes("size " + size, 1, 1);
             Rig.due("size", rig.list(0, 1), 64);
         }
         for (int size : new int[] {1, 65535}) {
             Rig rig = withFile(0);
             rig.pokePair(8, 10, size);
-            dueFixes("no cluster, size " + size, rig, 1, 1);
+            rig.dueFixes("no cluster, size " + size, 1, 1);
             Rig.due("size", rig.list(0, 1) + " " + rig.list(0, 2), "0 0");
         }
         Rig great = new Rig();
         great.occupyFrom(3);
         great.pokePair(8, 10, 65535);
-        dueFixes("61 clusters", great, 1, 1);
+        great.dueFixes("61 clusters", 1, 1);
         Rig.due("size", great.list(0, 1), 61 * 32);
     }
 
@@ -486,7 +469,7 @@ public final class EdgesOfRepairTest {
             rig.file("F" + i);
         }
         rig.volume.poke(60, 0, 1);
-        dueFixes("a directory of two clusters and size 0", rig, 0, 0);
+        rig.dueFixes("a directory of two clusters and size 0", 0, 0);
         rig.enter("D");
         Rig.due("all stay", rig.shortName(2), "F2");
     }
@@ -497,7 +480,7 @@ public final class EdgesOfRepairTest {
             for (int value : new int[] {2, 3, 63, 65535}) {
                 Rig rig = new Rig();
                 rig.pokeBothCells(cell, value);
-                dueFixes("cell " + cell + " of " + value, rig, 1, 2);
+                rig.dueFixes("cell " + cell + " of " + value, 1, 2);
                 Rig.due("cells", rig.cell(cell) + " " + rig.secondCell(cell), "0 0");
             }
         }
@@ -506,7 +489,7 @@ public final class EdgesOfRepairTest {
             all.volume.poke(cell / 16, cell % 16 * 2, 63);
             all.volume.poke(4 + cell / 16, cell % 16 * 2, 63);
         }
-        dueFixes("all of them", all, 61, 122);
+        all.dueFixes("all of them", 61, 122);
         Rig.due("cells 0 to 2 stay", all.cell(0) + " " + all.cell(1) + " " + all.cell(2), "65535 65535 65535");
     }
 
@@ -530,12 +513,12 @@ public final class EdgesOfRepairTest {
             rig.directory("D");
             rig.enter("D");
         }
-        file(rig, "fourteen.chars", 32);
+        rig.fileOf("fourteen.chars", 32);
         int sector = rig.cell(rig.look(3)) + 6;
         rig.volume.poke(60, 0, 1);
-        dueFixes("five, and a file in the fifth", rig, 0, 0);
+        rig.dueFixes("five, and a file in the fifth", 0, 0);
         rig.volume.poke(sector, 6, 2);
-        dueFixes("a sixth one, with its parts, and its cluster", rig, 2, 3 + 2);
+        rig.dueFixes("a sixth one, with its parts, and its cluster", 2, 3 + 2);
         Rig.due("freed", rig.octet(sector, 0), 229);
         Rig.due("the fifth stays", rig.enter("D") + rig.enter("D") + rig.enter("D") + rig.enter("D"), Rig.DONE.repeat(4));
         Rig.due("it is empty", rig.list(0, 0), Rig.NO_SUCH);
@@ -546,7 +529,7 @@ public final class EdgesOfRepairTest {
         Rig rig = new Rig();
         rig.directory("D");
         rig.enter("D");
-        file(rig, "F", 3);
+        rig.fileOf("F", 3);
         for (int handle = 0; handle < 4; handle++) {
             rig.open("F");
         }
@@ -565,7 +548,7 @@ public final class EdgesOfRepairTest {
         Rig.due("cut", rig.repair(), Rig.STATE);
         Rig.due("no power", rig.repair() + rig.cell(40), Rig.STATE + 65535);
         rig.volume.power();
-        dueFixes("power", rig, 1, 2);
+        rig.dueFixes("power", 1, 2);
     }
 
     private static void soundDisk() {
@@ -573,7 +556,7 @@ public final class EdgesOfRepairTest {
         Rig rig = withFile(33);
         rig.directory("a.directory.of.two.parts");
         rig.enter("a.directory.of.two.parts");
-        file(rig, "another.file", 64);
+        rig.fileOf("another.file", 64);
         Rig.due("none", rig.repair(), 0);
         int writes = rig.writes();
         rig.volume.cut(0);

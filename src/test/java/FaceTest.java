@@ -23,7 +23,8 @@ public final class FaceTest {
         }
         Rig.due("methods", seen, new TreeSet<>(Set.of(FACE)));
         for (Field field : FileVolume.class.getDeclaredFields()) {
-            Rig.due("field " + field.getName(), Modifier.isPrivate(field.getModifiers()), true);
+            boolean isHidden = field.isSynthetic() || Modifier.isPrivate(field.getModifiers());
+            Rig.due("field " + field.getName(), isHidden, true);
         }
         Constructor<?>[] constructors = FileVolume.class.getDeclaredConstructors();
         Rig.due("constructors", constructors.length, 1);
@@ -44,17 +45,12 @@ public final class FaceTest {
 
     private static void noPrivateMethodBearsAPublicName() {
         Set<String> names = new TreeSet<>();
-        for (Method method : FileVolume.class.getMethods()) {
-            names.add(method.getName());
+        for (String signature : FACE) {
+            names.add(signature.substring(signature.indexOf(' ') + 1, signature.indexOf('(')));
         }
         for (Method method : FileVolume.class.getDeclaredMethods()) {
             boolean isPrivate = Modifier.isPrivate(method.getModifiers());
             Rig.due(method.getName(), isPrivate && names.contains(method.getName()), false);
-        }
-        for (Class<?> inside : FileVolume.class.getDeclaredClasses()) {
-            for (Method method : inside.getDeclaredMethods()) {
-                Rig.due(inside.getSimpleName() + "." + method.getName(), names.contains(method.getName()), false);
-            }
         }
     }
 }

@@ -56,7 +56,7 @@ public final class ListTest {
         Rig.due("up to the first 0", rig.longName(0), "fou");
         rig.volume.poke(9, 1, 32);
         rig.repair();
-        Rig.due("up to the first 32", rig.shortName(0), "F");
+        Rig.due("up to the first 32", rig.list(0, 10) + rig.open("F"), "700");
         Rig.due("its sum is another one", rig.list(0, 3), 0);
     }
 }

@@ -107,6 +107,14 @@ final class Rig {
         }
     }
 
+    /** Makes a file of so many bytes HERE and closes it. */
+    void fileOf(String name, int size) {
+        due("create " + name, file(name), DONE);
+        int handle = Integer.parseInt(open(name));
+        append(handle, size);
+        volume.close(handle);
+    }
+
     String list(int k, int what) {
         return answer(() -> volume.list(k, what));
     }
@@ -132,6 +140,14 @@ final class Rig {
 
     String repair() {
         return answer(volume::repair);
+    }
+
+    /** The repair must answer so many FIXES by so many writes, and leave nothing for another one. */
+    void dueFixes(String what, int fixes, int writes) {
+        int before = writes();
+        due(what + ", fixes", repair(), fixes);
+        due(what + ", writes", writes() - before, writes);
+        due(what + ", again", repair(), 0);
     }
 
     int look(int what) {
@@ -183,6 +199,11 @@ final class Rig {
             text.append(i == 0 ? "" : " ").append(octet(sector, half * 16 + i));
         }
         return text.toString();
+    }
+
+    /** How many of the two entries of a sector have been marked by 229. */
+    int freedIn(int sector) {
+        return (octet(sector, 0) == 229 ? 1 : 0) + (octet(sector, 16) == 229 ? 1 : 0);
     }
 
     /**
