@@ -23,6 +23,7 @@ public final class EdgesOfFilesTest {
         roomForSome();
         roomForNone();
         sectorsInOrder();
+        sectorsApart();
         sizeGrowsOrNot();
         greatestFile();
         Rig.end();
@@ -318,6 +319,24 @@ public final class EdgesOfFilesTest {
             Rig.due("first sector after " + k, rig.octet(9, 30) + " " + rig.octet(9, 31), k > 0 ? "113 114" : "30 31");
             Rig.due("second sector after " + k, rig.octet(10, 0) + " " + rig.octet(10, 1), k > 1 ? "115 116" : "32 0");
             Rig.due("size after " + k, rig.octet(8, 10), k > 2 ? 34 : 33);
+        }
+    }
+
+    private static void sectorsApart() {
+        Rig.sentence("A WRITE changes bytes of one sector at once.");
+        for (int at = 25; at <= 32; at++) {
+            Rig rig = withFile(at);
+            rig.fileOf("G", 32);
+            Rig.due("write", rig.write(0, 0x7172737475767778L, 8), 8);
+            Rig.due("a cluster of another file lies between", rig.cell(3) + " " + rig.cell(4), "5 65535");
+            for (int i = 0; i < 8; i++) {
+                int place = at + i;
+                Rig.due("byte " + place, rig.octet(place < 32 ? 9 : 11, place % 32), 0x71 + i);
+            }
+            Rig.due("the other file", rig.octet(10, 0) + " " + rig.octet(10, 30) + " " + rig.octet(10, 31), "0 30 31");
+            Rig.due("in front and behind", rig.octet(9, at - 1) + " " + rig.octet(11, at % 32 < 25 ? 8 : at - 24), at - 1 + " 0");
+            rig.volume.seek(0, at);
+            Rig.due("read again", rig.read(0, 7), (7L << 56) + 0x71727374757677L);
         }
     }
 

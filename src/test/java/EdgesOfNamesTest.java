@@ -7,6 +7,7 @@ public final class EdgesOfNamesTest {
         lettersAreEqual();
         nothingElseIsEqual();
         calledByBoth();
+        calledByFullParts();
         notCalledByPieces();
         oneToSix();
         lettersAndDigits();
@@ -100,6 +101,19 @@ public final class EdgesOfNamesTest {
         rig.volume.close(0);
         rig.volume.close(1);
         Rig.due("delete by the short one", rig.delete("note~1"), Rig.DONE);
+    }
+
+    private static void calledByFullParts() {
+        Rig.sentence("An entry is CALLED by its short name .. and by its long name.");
+        Rig rig = new Rig();
+        rig.file("AB");
+        rig.file("thirteen_char");
+        rig.file("CD");
+        rig.file("abcdefghijklmnopqrstuvwxyz");
+        Rig.due("though no 0 ends them", rig.open("Thirteen_Char") + rig.open("ABCDEFGHIJKLMNOPQRSTUVWXYZ"), "01");
+        Rig.due("so they can't be made again", rig.file("THIRTEEN_CHAR") + rig.file("abcdefghijklmnopqrstuvwxyZ"),
+                Rig.UNSUPPORTED.repeat(2));
+        Rig.due("but others can", rig.file("thirteen_chaR.") + rig.file("abcdefghijklmnopqrstuvwxy"), Rig.DONE.repeat(2));
     }
 
     private static void notCalledByPieces() {
@@ -243,6 +257,18 @@ public final class EdgesOfNamesTest {
         named.file("zz~2");
         named.file("zz~9x");
         Rig.due("a long name", named.shortName(0) + " " + named.shortName(1), "ZZ2~1 ZZ9X~1");
+        Rig part = new Rig();
+        // Its part begins with 65 ~ 1 0, which is A~1 to the eye, but a part has no short name.
+        part.file("~1");
+        part.file("a");
+        Rig.due("a part", part.shortName(0) + " " + part.shortName(1), "1~1 A~1");
+        Rig longer = new Rig();
+        longer.file("AXXX");
+        longer.volume.poke(8, 1, '~');
+        longer.volume.poke(8, 2, '1');
+        longer.repair();
+        longer.file("a");
+        Rig.due("a longer one", longer.shortName(0) + " " + longer.shortName(1), "A~1X A~1");
     }
 
     private static void noDigitLeft() {
